@@ -1,0 +1,57 @@
+/** Counts and prints what is not as due; a test ends with finish(). */
+final class Expect {
+    private static int wrong = 0;
+    private static int looked = 0;
+
+    private Expect() {
+    }
+
+    static void same(String what, long got, long due) {
+        looked++;
+        if (got != due) {
+            wrong++;
+            System.out.println(what + " answered " + got + ", due is " + due);
+        }
+    }
+
+    static void same(String what, boolean got, boolean due) {
+        same(what, got ? 1 : 0, due ? 1 : 0);
+    }
+
+    static void same(String what, String got, String due) {
+        looked++;
+        if (!got.equals(due)) {
+            wrong++;
+            System.out.println(what + " answered " + got + ", due is " + due);
+        }
+    }
+
+    static void outOfBounds(String what, Runnable call) {
+        same(what, thrownBy(call), "IndexOutOfBoundsException");
+    }
+
+    static void badArgument(String what, Runnable call) {
+        same(what, thrownBy(call), "IllegalArgumentException");
+    }
+
+    static void badState(String what, Runnable call) {
+        same(what, thrownBy(call), "IllegalStateException");
+    }
+
+    /** The exact class: a subclass that the machine throws is no answer. */
+    private static String thrownBy(Runnable call) {
+        try {
+            call.run();
+            return "nothing";
+        } catch (RuntimeException e) {
+            return e.getClass().getSimpleName();
+        }
+    }
+
+    static void finish(String test) {
+        System.out.println(test + ": " + looked + " looks, " + wrong + " wrong");
+        if (wrong != 0 || looked == 0) {
+            System.exit(1);
+        }
+    }
+}
