@@ -38,6 +38,7 @@ public final class PromisesTest {
         checkMany();
         owedWithMail();
         owedWithoutMail();
+        owedOfLittle();
         net();
         callsThatThrowChangeNothing();
         Expect.finish("PromisesTest");
@@ -220,6 +221,9 @@ public final class PromisesTest {
         Expect.same("P5 the week before it", x.enrol(0, 6), 7);
         Expect.same("P5 refused ones took no seat", x.enrol(1, 4), 7);
         Expect.badState("P5 of the other worker", () -> x.enrol(1, 3));
+        x.addCourse(8, 20, 21, 1);
+        x.enrol(0, 7);
+        Expect.badState("P5 a course of one hour twice", () -> x.enrol(0, 7));
     }
 
     private static void enrolByWeeks() {
@@ -696,6 +700,21 @@ public final class PromisesTest {
         Expect.same("P19 twice 299", x.owes(0), 598);
         Expect.same("P19 half of 300", x.owes(1), 150);
         Expect.same("P18 all rests", x.firmOwes(), 300 + 300 + 150);
+    }
+
+    private static void owedOfLittle() {
+        ShortWork x = new ShortWork();
+        x.add(2, false);
+        x.notice(0, 2, 3, 40);
+        x.pass(4);
+        x.door(0, 2, 3);
+        Expect.same("P17 1 is something", x.check(2), 1);
+        Expect.same("P19 half of 1", x.owes(0), 0);
+        Expect.same("P18 the rest of 1", x.firmOwes(), 1);
+        x.door(0, 3, 3);
+        x.mail(0, 3);
+        x.check(3);
+        Expect.same("P18 10 percent of 1", x.firmOwes(), 2);
     }
 
     // ---- Promise 20
