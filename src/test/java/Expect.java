@@ -2,15 +2,24 @@
 final class Expect {
     private static int wrong = 0;
     private static int looked = 0;
+    private static String test = "";
 
     private Expect() {
+    }
+
+    /** Names the test that goes on, so that what it prints can be found again. */
+    static void begin(String name) {
+        test = name + ": ";
+    }
+
+    static int looked() {
+        return looked;
     }
 
     static void same(String what, long got, long due) {
         looked++;
         if (got != due) {
-            wrong++;
-            System.out.println(what + " answered " + got + ", due is " + due);
+            wrong(what + " answered " + got + ", due is " + due);
         }
     }
 
@@ -21,8 +30,7 @@ final class Expect {
     static void same(String what, String got, String due) {
         looked++;
         if (!got.equals(due)) {
-            wrong++;
-            System.out.println(what + " answered " + got + ", due is " + due);
+            wrong(what + " answered " + got + ", due is " + due);
         }
     }
 
@@ -39,7 +47,7 @@ final class Expect {
     }
 
     /** The exact class: a subclass that the machine throws is no answer. */
-    private static String thrownBy(Runnable call) {
+    static String thrownBy(Runnable call) {
         try {
             call.run();
             return "nothing";
@@ -48,8 +56,13 @@ final class Expect {
         }
     }
 
-    static void finish(String test) {
-        System.out.println(test + ": " + looked + " looks, " + wrong + " wrong");
+    static void wrong(String text) {
+        wrong++;
+        System.out.println(test + text);
+    }
+
+    static void finish(String name) {
+        System.out.println(name + ": " + looked + " looks, " + wrong + " wrong");
         if (wrong != 0 || looked == 0) {
             System.exit(1);
         }

@@ -1,15 +1,19 @@
+import java.util.ArrayList;
+import java.util.List;
 import java.util.Map;
 import java.util.Random;
 import java.util.TreeMap;
 import java.util.function.IntSupplier;
 
 /**
- * Many runs of 512 calls by chance (with seeds that stay), on ShortWork and on PlainBureau: each
- * call must answer or throw the same, and each kind of answer must have come up.
+ * Many runs of calls by chance (with seeds that stay), on ShortWork and on PlainBureau: each call
+ * must answer or throw the same, and each kind of answer must have come up. At the end everything
+ * is asked, of objects on which the run is made again: none takes more than 512 calls.
  */
 public final class ManyRunsTest {
     private static final int RUNS = 400;
-    private static final int CALLS = 512;
+    private static final int CALLS = 412;
+    private static final int QUESTIONS_OF_ONE = 100;
     private static final String[] METHODS = {
         "add", "notice", "addCourse", "enrol", "setFloor", "workers", "cut", "isFilled", "pass",
         "week", "paid", "madeUp", "cutWeeks", "door", "mail", "check", "firmOwes", "owes", "net"};
@@ -21,7 +25,9 @@ public final class ManyRunsTest {
     private static final Map<String, Integer> seen = new TreeMap<>();
 
     private final Random random;
-    private final ShortWork x = new ShortWork();
+    private final List<Question> calls = new ArrayList<>();
+    private ShortWork x = new ShortWork();
+    private int questions = 0;
     private final PlainBureau plain = new PlainBureau();
     private final String name;
 
@@ -86,12 +92,12 @@ public final class ManyRunsTest {
     }
 
     private int worker() {
-        return among(0, Math.max(0, x.workers() - 1));
+        return among(0, Math.max(0, plain.workers() - 1));
     }
 
     private int passedWeek() {
         int back = random.nextInt(4) == 0 ? 200 : 6;
-        return among(Math.max(0, x.week() - back), x.week() - 1);
+        return among(Math.max(0, plain.week() - back), plain.week() - 1);
     }
 
     private int fewOrMany() {
@@ -116,75 +122,75 @@ public final class ManyRunsTest {
     private void callAdd() {
         int pay = random.nextBoolean() ? among(1, 100000) : among(1, 50);
         boolean children = random.nextBoolean();
-        both("add", () -> x.add(pay, children), () -> plain.add(pay, children));
+        both("add", y -> y.add(pay, children), () -> plain.add(pay, children));
     }
 
     private void callNotice() {
         int w = worker();
-        int from = among(x.week() + 1, Math.min(200, x.week() + 12));
+        int from = among(plain.week() + 1, Math.min(200, plain.week() + 12));
         int to = among(from, Math.min(200, from + fewOrMany()));
         int hours = among(0, 40);
-        both("notice", () -> x.notice(w, from, to, hours), () -> plain.notice(w, from, to, hours));
+        both("notice", y -> y.notice(w, from, to, hours), () -> plain.notice(w, from, to, hours));
     }
 
     private void callAddCourse() {
         int seats = among(1, 8);
-        int from = among(Math.max(0, x.week() - 10), Math.min(200, x.week() + 20));
+        int from = among(Math.max(0, plain.week() - 10), Math.min(200, plain.week() + 20));
         int to = among(from, Math.min(200, from + fewOrMany()));
         int hours = among(1, 40);
-        both("addCourse", () -> x.addCourse(seats, from, to, hours),
+        both("addCourse", y -> y.addCourse(seats, from, to, hours),
                 () -> plain.addCourse(seats, from, to, hours));
     }
 
     private void callEnrol() {
         int w = worker();
         int course = among(0, 9);
-        both("enrol", () -> x.enrol(w, course), () -> plain.enrol(w, course));
+        both("enrol", y -> y.enrol(w, course), () -> plain.enrol(w, course));
     }
 
     private void callSetFloor() {
         int percent = among(0, 100);
-        both("setFloor", () -> x.setFloor(percent), () -> plain.setFloor(percent));
+        both("setFloor", y -> y.setFloor(percent), () -> plain.setFloor(percent));
     }
 
     private void callPass() {
         int weeks = random.nextInt(12) == 0 ? among(1, 60) : among(1, 5);
-        both("pass", () -> x.pass(weeks), () -> plain.pass(weeks));
+        both("pass", y -> y.pass(weeks), () -> plain.pass(weeks));
     }
 
     private void callDoor() {
         int w = worker();
         int at = passedWeek();
-        boolean isNear = w >= 0 && w < x.workers() && at >= 0 && at <= 200 && random.nextBoolean();
-        int hours = isNear ? 40 - x.cut(w, at) + 1 + random.nextInt(3) : among(0, 80);
-        both("door", () -> done(() -> x.door(w, at, hours)),
+        boolean isNear = w >= 0 && w < plain.workers() && at >= 0 && at <= 200 && random.nextBoolean();
+        int hours = isNear ? 40 - plain.cut(w, at) + 1 + random.nextInt(3) : among(0, 80);
+        both("door", y -> done(() -> y.door(w, at, hours)),
                 () -> done(() -> plain.door(w, at, hours)));
     }
 
     private void callMail() {
         int w = worker();
         int at = passedWeek();
-        both("mail", () -> done(() -> x.mail(w, at)), () -> done(() -> plain.mail(w, at)));
+        both("mail", y -> done(() -> y.mail(w, at)), () -> done(() -> plain.mail(w, at)));
     }
 
     private void callCheck() {
         int at = passedWeek();
-        both("check", () -> x.check(at), () -> plain.check(at));
+        both("check", y -> y.check(at), () -> plain.check(at));
     }
 
     private void ask(String method, int w, int at) {
         switch (method) {
-            case "workers" -> both(method, x::workers, plain::workers);
-            case "cut" -> both(method, () -> x.cut(w, at), () -> plain.cut(w, at));
-            case "isFilled" -> both(method, () -> bit(x.isFilled(w, at)),
+            case "workers" -> both(method, ShortWork::workers, plain::workers);
+            case "cut" -> both(method, y -> y.cut(w, at), () -> plain.cut(w, at));
+            case "isFilled" -> both(method, y -> bit(y.isFilled(w, at)),
                     () -> bit(plain.isFilled(w, at)));
-            case "week" -> both(method, x::week, plain::week);
-            case "paid" -> both(method, () -> x.paid(w, at), () -> plain.paid(w, at));
-            case "madeUp" -> both(method, () -> x.madeUp(w, at), () -> plain.madeUp(w, at));
-            case "cutWeeks" -> both(method, () -> x.cutWeeks(w), () -> plain.cutWeeks(w));
-            case "firmOwes" -> both(method, x::firmOwes, plain::firmOwes);
-            case "owes" -> both(method, () -> x.owes(w), () -> plain.owes(w));
-            case "net" -> both(method, () -> x.net(w), () -> plain.net(w));
+            case "week" -> both(method, ShortWork::week, plain::week);
+            case "paid" -> both(method, y -> y.paid(w, at), () -> plain.paid(w, at));
+            case "madeUp" -> both(method, y -> y.madeUp(w, at), () -> plain.madeUp(w, at));
+            case "cutWeeks" -> both(method, y -> y.cutWeeks(w), () -> plain.cutWeeks(w));
+            case "firmOwes" -> both(method, ShortWork::firmOwes, plain::firmOwes);
+            case "owes" -> both(method, y -> y.owes(w), () -> plain.owes(w));
+            case "net" -> both(method, y -> y.net(w), () -> plain.net(w));
             default -> throw new IllegalArgumentException(method);
         }
     }
@@ -205,11 +211,24 @@ public final class ManyRunsTest {
         }
     }
 
-    private void both(String method, IntSupplier call, IntSupplier plainCall) {
-        String got = answer(call);
+    private void both(String method, Question call, IntSupplier plainCall) {
+        if (calls.size() < CALLS) {
+            calls.add(call);
+        } else if (questions++ % QUESTIONS_OF_ONE == 0) {
+            x = madeAgain();
+        }
+        String got = answer(() -> (int) call.of(x));
         String due = answer(plainCall);
         seen.merge(method + (due.contains("Exception") ? " " + due : " value"), 1, Integer::sum);
         Expect.same(name + method, got, due);
+    }
+
+    private ShortWork madeAgain() {
+        ShortWork again = new ShortWork();
+        for (Question call : calls) {
+            answer(() -> (int) call.of(again));
+        }
+        return again;
     }
 
     private static String answer(IntSupplier call) {

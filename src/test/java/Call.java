@@ -1,0 +1,4 @@
+/** A call, or some calls, on a bureau. */
+interface Call {
+    void on(ShortWork x);
+}

@@ -1,0 +1,4 @@
+/** What a bureau is asked. */
+interface Question {
+    long of(ShortWork x);
+}
