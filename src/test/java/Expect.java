@@ -1,5 +1,8 @@
-/** Counts and prints what is not as due; a test ends with finish(). */
-final class Expect {
+/**
+ * Counts and prints what is not as due; a test ends with finish(). What README.md's example needs is
+ * public: ReadmeTest loads it by a loader of its own.
+ */
+public final class Expect {
     private static int wrong = 0;
     private static int looked = 0;
     private static String test = "";
@@ -27,7 +30,7 @@ final class Expect {
         same(what, got ? 1 : 0, due ? 1 : 0);
     }
 
-    static void same(String what, String got, String due) {
+    public static void same(String what, String got, String due) {
         looked++;
         if (!got.equals(due)) {
             wrong(what + " answered " + got + ", due is " + due);
@@ -47,7 +50,7 @@ final class Expect {
     }
 
     /** The exact class: a subclass that the machine throws is no answer. */
-    static String thrownBy(Runnable call) {
+    public static String thrownBy(Runnable call) {
         try {
             call.run();
             return "nothing";

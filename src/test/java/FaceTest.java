@@ -12,10 +12,7 @@ import java.util.TreeSet;
 import java.util.regex.Matcher;
 import java.util.regex.Pattern;
 
-/**
- * The face as the document writes it and nothing besides, and those rules of LANGUAGE.md that can
- * be seen without a reader of Java.
- */
+/** The face as the document writes it, and no other member that can be seen from outside. */
 public final class FaceTest {
     private static final String OUT = " IndexOutOfBoundsException";
     private static final String ARGUMENT = " IllegalArgumentException";
@@ -40,10 +37,11 @@ public final class FaceTest {
         "int firmOwes()",
         "int owes(int)" + OUT,
         "int net(int)" + OUT};
-    private static final String[] FORBIDDEN = {
-        "\\bpackage\\b", "\\bimport\\b", "\\bcatch\\b", "\\bfinally\\b", "\\bsynchronized\\b",
-        "\\bassert\\b", "->", "::", "\\bSystem\\s*\\.\\s*(out|err|nano|current)", "\\bThread\\b",
-        "Exact\\s*\\(", "\\bstatic\\s*\\{", "\\bprotected\\b"};
+    private static final String GROUPS = "[ShortWork,"
+            + " ---- workers, notices and courses,"
+            + " add, notice, addCourse, enrol, setFloor, workers, cut, isFilled,"
+            + " ---- weeks, pass, week, paid, madeUp, cutWeeks,"
+            + " ---- checks, door, mail, check, firmOwes, owes, net]";
 
     private FaceTest() {
     }
@@ -53,7 +51,7 @@ public final class FaceTest {
         noOtherOpenMembers();
         Expect.same("a file to look at is named", args.length, 1);
         if (args.length == 1) {
-            source(Files.readString(Path.of(args[0])));
+            groups(Files.readString(Path.of(args[0])));
         }
         Expect.finish("FaceTest");
     }
@@ -62,72 +60,46 @@ public final class FaceTest {
         int modifiers = ShortWork.class.getModifiers();
         Expect.same("public", Modifier.isPublic(modifiers), true);
         Expect.same("final", Modifier.isFinal(modifiers), true);
+        Expect.same("no package", ShortWork.class.getPackageName(), "");
         Expect.same("constructors", ShortWork.class.getDeclaredConstructors().length, 1);
         Expect.same("public constructors", ShortWork.class.getConstructors().length, 1);
         Expect.same("public fields", ShortWork.class.getFields().length, 0);
         for (Constructor<?> made : ShortWork.class.getConstructors()) {
             Expect.same("constructor's parameters", made.getParameterCount(), 0);
+            Expect.same("constructor's exceptions", made.getExceptionTypes().length, 0);
         }
-        Set<String> got = new TreeSet<>();
-        for (Method method : ShortWork.class.getDeclaredMethods()) {
-            if (Modifier.isPublic(method.getModifiers())) {
-                got.add(written(method));
-            }
-        }
-        Expect.same("public methods", got.toString(), new TreeSet<>(List.of(METHODS)).toString());
-    }
-
-    private static String written(Method method) {
-        List<String> parameters = new ArrayList<>();
-        for (Class<?> type : method.getParameterTypes()) {
-            parameters.add(type.getSimpleName());
-        }
-        StringBuilder text = new StringBuilder();
-        text.append(Modifier.isStatic(method.getModifiers()) ? "static " : "");
-        text.append(method.getReturnType().getSimpleName()).append(' ').append(method.getName());
-        text.append('(').append(String.join(",", parameters)).append(')');
-        for (Class<?> type : method.getExceptionTypes()) {
-            text.append(' ').append(type.getSimpleName());
-        }
-        return text.toString();
+        Expect.same("public methods", Face.methods().toString(),
+                new TreeSet<>(List.of(METHODS)).toString());
     }
 
     private static void noOtherOpenMembers() {
-        Set<String> publicNames = new TreeSet<>();
         Set<String> privateNames = new TreeSet<>();
         for (Method method : ShortWork.class.getDeclaredMethods()) {
-            boolean isPublic = Modifier.isPublic(method.getModifiers());
-            (isPublic ? publicNames : privateNames).add(method.getName());
-            Expect.same(method + " is public or private",
-                    isPublic || Modifier.isPrivate(method.getModifiers()), true);
+            if (!Modifier.isPublic(method.getModifiers())) {
+                privateNames.add(method.getName());
+                Expect.same(method + " is private", Modifier.isPrivate(method.getModifiers()), true);
+            }
         }
-        privateNames.retainAll(publicNames);
+        privateNames.retainAll(Face.names());
         Expect.same("private methods with public names", privateNames.size(), 0);
         for (Field field : ShortWork.class.getDeclaredFields()) {
             Expect.same(field + " is private", Modifier.isPrivate(field.getModifiers()), true);
-            Expect.same(field + " is final if static", !Modifier.isStatic(field.getModifiers())
-                    || Modifier.isFinal(field.getModifiers()), true);
         }
-        for (Class<?> inner : ShortWork.class.getDeclaredClasses()) {
-            int modifiers = inner.getModifiers();
-            Expect.same(inner + " is static", Modifier.isStatic(modifiers), true);
-            Expect.same(inner + " is no face",
+        for (Class<?> inside : ShortWork.class.getDeclaredClasses()) {
+            int modifiers = inside.getModifiers();
+            Expect.same(inside + " is static", Modifier.isStatic(modifiers), true);
+            Expect.same(inside + " is no face",
                     Modifier.isPublic(modifiers) || Modifier.isProtected(modifiers), false);
         }
     }
 
-    private static void source(String text) {
-        String code = text.replaceAll("(?s)/\\*.*?\\*/", "").replaceAll("//[^\n]*", "");
-        for (String rule : FORBIDDEN) {
-            Matcher found = Pattern.compile(rule).matcher(code);
-            Expect.same(rule + " in the code", found.find(), false);
+    /** The calls stand in the document's order, and ahead of them what the interface says there. */
+    private static void groups(String text) {
+        List<String> found = new ArrayList<>();
+        Matcher line = Pattern.compile("public (?:\\w+ )?(\\w+)\\(|// (---- (?!parts).*)").matcher(text);
+        while (line.find()) {
+            found.add(line.group(1) == null ? line.group(2) : line.group(1));
         }
-        Set<String> thrown = new TreeSet<>();
-        Matcher exceptions = Pattern.compile("throw\\s+new\\s+(\\w+)").matcher(code);
-        while (exceptions.find()) {
-            thrown.add(exceptions.group(1));
-        }
-        Expect.same("exceptions in the code", thrown.toString(),
-                "[IllegalArgumentException, IllegalStateException, IndexOutOfBoundsException]");
+        Expect.same("calls in their order", found.toString(), GROUPS);
     }
 }
